@@ -610,13 +610,10 @@ public final class FramedLog {
             }
         }
 
-        /** Only numbers up to 999 are described: a block has at most 32 bytes. */
+        /** Two digits are enough: no number of a description is greater than the largest block. */
         void addNumber(int number) {
-            if (number >= 100) {
-                add('0' + number / 100 % 10);
-            }
             if (number >= 10) {
-                add('0' + number / 10 % 10);
+                add('0' + number / 10);
             }
             add('0' + number % 10);
         }

@@ -247,6 +247,10 @@ public final class FramedLogPromises {
         error("block 16  ", 1, 10);
         error("Block 16;", 1, 0);
         error("blocks 16;", 1, 0);
+        error("flock 16;", 1, 0);
+        error("block 16;second a;", 1, 9);
+        error("block 16;lamage 0 0;", 1, 9);
+        error("block 16;but 0;", 1, 9);
         error("record a;", 1, 0);
         error("16;", 1, 0);
         error("block x;", 1, 6);
@@ -427,6 +431,7 @@ public final class FramedLogPromises {
         due("payload whole", loaded("block 8;record abcdef;cut 8;").isFragmentStart(0), true);
         due("payload leaves the block", loaded("block 8;record abcde;record abc;damage 1 3;").isFragmentStart(0), false);
         due("payload fills the block", loaded("block 8;record abcd;record abc;damage 1 1;").isFragmentStart(0), true);
+        due("a header at the very end", loaded("block 8;record ab;record xy;cut 8;").isFragmentStart(5), true);
         due("type 0", loaded("block 8;record abc;damage 2 1;").isFragmentStart(0), false);
         due("type 5", loaded("block 8;record abc;damage 2 4;").isFragmentStart(0), false);
         due("type 4", loaded("block 8;record abc;damage 2 5;").isFragmentStart(0), true);
@@ -574,7 +579,18 @@ public final class FramedLogPromises {
         due("paddingBytes of " + all(x), x.paddingBytes(), padding);
         promise = 36;
         due("unreadableBytes of " + all(x), x.unreadableBytes(), unreadable);
+        due("unreadableBytes first of " + all(copy(x)), copy(x).unreadableBytes(), unreadable);
+        promise = 35;
+        due("paddingBytes first of " + all(x), copy(x).paddingBytes(), padding);
+        promise = 36;
         due("the sum", x.readableBytes() + x.paddingBytes() + x.unreadableBytes(), x.logLength());
+    }
+
+    /** A new object with the same log, that has answered no question yet. */
+    private static FramedLog copy(FramedLog x) {
+        FramedLog c = loaded("block " + x.blockSize() + ";record " + A40 + ";record " + A40 + ";cut " + x.logLength() + ";");
+        for (int i = 0; i < x.logLength(); i++) if (c.logByte(i) != x.logByte(i)) c.damage(i, c.logByte(i) ^ x.logByte(i));
+        return c;
     }
 
     private static void nextRecords() {
@@ -660,6 +676,7 @@ public final class FramedLogPromises {
         promise = 49;
         due("recordsIfTruncated", x.recordsIfTruncated(0) + " " + x.recordsIfTruncated(5) + " " + x.recordsIfTruncated(6) + " "
                 + x.recordsIfTruncated(27) + " " + x.recordsIfTruncated(28) + " " + x.recordsIfTruncated(44), "0 0 1 1 2 3");
+        due("as the first question", new FramedLog().recordsIfTruncated(28), 2);
         thrown("recordsIfTruncated(45)", ARGUMENT, () -> x.recordsIfTruncated(45));
         thrown("recordsIfTruncated(-1)", ARGUMENT, () -> x.recordsIfTruncated(-1));
         thrown("recordsIfTruncated(MIN)", ARGUMENT, () -> x.recordsIfTruncated(MIN));
@@ -726,7 +743,7 @@ public final class FramedLogPromises {
         // a reader that comes into the place of another one starts anew
         x.undo();
         x.undo();
-        FramedLog y = loaded("block 8;record a;damage 0 1;record bcdef;reader r;read r 1;");
+        FramedLog y = troubled();
         type(y, "block 8;");
         y.load();
         type(y, "s");
@@ -805,6 +822,9 @@ public final class FramedLogPromises {
         FramedLog f4 = loaded("block 16;record abc;record def;reader r;damage 2 5;");
         f4.repair(0);
         due("(f) orphan LAST", f4.read(0) + " " + counts(f4), "3 12 1 0 0 1");
+        FramedLog t = troubled();
+        due("(g) the problems are added", counts(t), "48 2 2 2 2");
+        due("a search without problems adds none", t.read(0) + " " + counts(t), "1 52 3 2 2 2");
         FramedLog g = loaded("block 8;record " + "x".repeat(35) + ";record yyyyy;record zzzzz;reader r;");
         g.damage(6 * 8 + 2, 4 ^ 3);
         g.repair(6 * 8);
@@ -816,6 +836,20 @@ public final class FramedLogPromises {
         FramedLog h = loaded("block 8;record abcdef;record a;record b;damage 3 1;cut 14;reader r;");
         thrown("problems, and then no record", ELEMENT, () -> h.read(0));
         due("the reader does not change", counts(h), "0 0 0 0 0");
+    }
+
+    /** A reader that has met each kind of problem once before each of two records. */
+    private static FramedLog troubled() {
+        String twice = "record abcde;record abcde;record a;record b;";
+        FramedLog x = loaded("block 8;reader r;" + twice + twice + "record c;damage 0 1;damage 24 1;");
+        for (int from = 0; from <= 24; from += 24) {
+            x.damage(from + 10, FramedLog.FULL ^ FramedLog.LAST);
+            x.repair(from + 8);
+            x.damage(from + 18, FramedLog.FULL ^ FramedLog.FIRST);
+            x.repair(from + 16);
+            x.read(0);
+        }
+        return x;
     }
 
     private static void seek() {
@@ -913,6 +947,11 @@ public final class FramedLogPromises {
         due("compact", d.compact(), 28);
         due("state", all(d), "16|123 1 1 113|4|a 0 1 0 0 0|b 0 2 0 0 0|c 4 4 0 0 0|d 0 0 0 0 0");
         FramedLog e = loaded("block 8;record abc;record de;record fgh;reader a;read a 1;reader b;read b 2;damage 0 1;");
+        FramedLog c = loaded("block 8;record abcde;record fghij;record klmno;reader r;");
+        due("compact of a compact log", c.compact() + " " + c.readerOffset(0), "0 0");
+        c.damage(0, 1);
+        c.seek(0, 1);
+        due("compact again", c.compact() + " " + c.readerOffset(0), "8 0");
         due("offsets", e.compact() + " " + e.readerOffset(0) + " " + e.readerOffset(1), "8 0 5");
         FramedLog n = loaded("block 8;record abc;reader a;read a 1;damage 0 1;");
         due("no records", n.compact() + " " + all(n), "6 8||1|a 0 1 0 0 0");
@@ -939,6 +978,11 @@ public final class FramedLogPromises {
         due("no fragments", described(loaded("block 16;record abcdefghijklm;damage 2 4;"), 0), "+16");
         due("MIDDLE and two digits", described(loaded("block 32;record " + A40 + ";record " + A40 + ";damage 32 1;"), 1), "L11! I15");
         due("MIDDLE", described(loaded("block 8;record abcdefghijklm;"), 1), "M5");
+        due("1 byte", described(loaded("block 8;record abcd;record e;"), 0), "F4 +1");
+        due("10", described(loaded("block 32;record abcdefghij;"), 0), "F10");
+        due("20", described(loaded("block 32;record abcdefghijklmnopqrst;"), 0), "F20");
+        due("29", described(loaded("block 32;record abcdefghijklmnopqrstuvwxyzabc;"), 0), "F29");
+        due("32", described(loaded("block 32;record abcdefghijklmnopqrstuvwxyzabc;damage 1 128;"), 0), "+32");
         due("length 0", described(loaded("block 8;record ab;record c;"), 0), "F2 I0");
         due("a shorter block", described(loaded("block 32;record abc;record defghijklmnop;cut 18;"), 0), "F3 +12");
         thrown("no such block", INDEX, () -> x.describeBlock(3));
@@ -981,6 +1025,14 @@ public final class FramedLogPromises {
         x.undo();
         due("undo leaves the slots", x.restore(0), 28);
         promise = 61;
+        FramedLog t = troubled();
+        String troubles = all(t);
+        t.save(0);
+        t.truncateLog(0);
+        type(t, "block 9;reader r;");
+        t.load();
+        t.restore(0);
+        due("the counts are kept", all(t), troubles);
         due("the previous content is discarded", x.save(0) + " " + x.save(1) + " " + x.restore(1), "28 28 28");
     }
 
