@@ -1350,8 +1350,19 @@ public final class FramedLog {
                 tokens.advance();
                 if (tokens.kind == Tokens.END) {
                     return true;
+                } else if (tokens.isWord("record")) {
+                    right = recordStatement();
+                } else if (tokens.isWord("reader")) {
+                    right = readerStatement();
+                } else if (tokens.isWord("read")) {
+                    right = readStatement();
+                } else if (tokens.isWord("cut")) {
+                    right = cutStatement();
+                } else if (tokens.isWord("damage")) {
+                    right = damageStatement();
+                } else {
+                    right = fail(NOT_ALLOWED);
                 }
-                right = furtherStatement();
             }
             return right;
         }
@@ -1371,25 +1382,6 @@ public final class FramedLog {
             }
             result.begin(tokens.value);
             return takeSemicolon();
-        }
-
-        private boolean furtherStatement() {
-            if (tokens.isWord("record")) {
-                return recordStatement();
-            }
-            if (tokens.isWord("reader")) {
-                return readerStatement();
-            }
-            if (tokens.isWord("read")) {
-                return readStatement();
-            }
-            if (tokens.isWord("cut")) {
-                return cutStatement();
-            }
-            if (tokens.isWord("damage")) {
-                return damageStatement();
-            }
-            return fail(NOT_ALLOWED);
         }
 
         private boolean takeWord() {

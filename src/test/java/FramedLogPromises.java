@@ -956,6 +956,9 @@ public final class FramedLogPromises {
         FramedLog n = loaded("block 8;record abc;reader a;read a 1;damage 0 1;");
         due("no records", n.compact() + " " + all(n), "6 8||1|a 0 1 0 0 0");
         due("of an empty log", loaded("block 8;").compact(), 0);
+        FramedLog full = loaded("block 8;" + "record abcde;".repeat(40));
+        for (int i = 0; i < 10; i++) writes(full, "abcde");
+        due("of a full log", full.compact() + " " + full.logLength() + " " + full.recordCount(), "0 400 50");
         FramedLog z = loaded("block 8;record a;record b;reader r;");
         z.damage(1, 1);
         z.repair(0);
