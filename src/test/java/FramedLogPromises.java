@@ -1,104 +1,5 @@
-import java.util.NoSuchElementException;
-
 /** For each promise of the document, calls whose answers follow from its words: ordinary ones, edges and wrong inputs. */
-public final class FramedLogPromises {
-    private static final Class<?> INDEX = IndexOutOfBoundsException.class;
-    private static final Class<?> ARGUMENT = IllegalArgumentException.class;
-    private static final Class<?> STATE = IllegalStateException.class;
-    private static final Class<?> ELEMENT = NoSuchElementException.class;
-    private static final int MIN = Integer.MIN_VALUE, MAX = Integer.MAX_VALUE;
-    private static final String A40 = "a".repeat(40);
-
-    private static int wrong = 0;
-    private static int promise = 0;
-
-    private interface Call {
-        Object run();
-    }
-
-    private static void due(String call, Object got, Object want) {
-        if (!got.equals(want)) {
-            wrong++;
-            System.out.println("promise " + promise + ": " + call + " answered " + got + ", due is " + want);
-        }
-    }
-
-    /** The exact class, because the machine's own exceptions are kinds of the document's. */
-    private static void thrown(String what, Class<?> want, Call call) {
-        Object got;
-        try {
-            got = call.run();
-        } catch (RuntimeException e) {
-            got = e.getClass();
-        }
-        due(what, got, want);
-    }
-
-    private static int pack(String s, int from) {
-        int word = 0;
-        for (int i = from; i < from + 4; i++) word = word << 8 | (i < s.length() ? s.charAt(i) : 0);
-        return word;
-    }
-
-    private static void type(FramedLog x, String s) {
-        x.truncateInput(0);
-        for (int i = 0; i < s.length(); i += 20) {
-            x.appendInput(pack(s, i), pack(s, i + 4), pack(s, i + 8), pack(s, i + 12), pack(s, i + 16));
-        }
-        x.truncateInput(s.length());
-    }
-
-    private static FramedLog loaded(String text) {
-        FramedLog x = new FramedLog();
-        type(x, text);
-        x.load();
-        return x;
-    }
-
-    private static void writes(FramedLog x, String bytes) {
-        type(x, bytes);
-        x.writeRecord();
-    }
-
-    private static String output(FramedLog x, int length) {
-        StringBuilder s = new StringBuilder();
-        for (int i = 0; i < length; i++) s.append((char) x.outputByte(i));
-        return s.toString();
-    }
-
-    private static String bytes(FramedLog x) {
-        StringBuilder s = new StringBuilder();
-        for (int i = 0; i < x.logLength(); i++) s.append(x.logByte(i)).append(' ');
-        return s.toString().trim();
-    }
-
-    private static String record(FramedLog x, int record) {
-        StringBuilder s = new StringBuilder();
-        for (int i = 0; i < x.recordLength(record); i++) s.append((char) x.recordByte(record, i));
-        return s.toString();
-    }
-
-    private static String name(FramedLog x, int reader) {
-        StringBuilder s = new StringBuilder();
-        try {
-            for (int i = 0; i < 9; i++) s.append((char) x.readerNameByte(reader, i));
-        } catch (NoSuchElementException e) {
-            return s.toString();
-        }
-        return "endless";
-    }
-
-    /** All of the state that the document names. */
-    private static String all(FramedLog x) {
-        StringBuilder s = new StringBuilder();
-        s.append(x.blockSize()).append('|').append(bytes(x)).append('|').append(x.writtenRecords());
-        for (int r = 0; r < x.readerCount(); r++) {
-            s.append('|').append(name(x, r)).append(' ').append(x.readerOffset(r)).append(' ').append(x.recordsRead(r));
-            s.append(' ').append(x.damageProblems(r)).append(' ').append(x.incompleteProblems(r)).append(' ').append(x.orphanProblems(r));
-        }
-        return s.toString();
-    }
-
+public final class FramedLogPromises extends Checks {
     private static final String OPENING = "16|147 3 1 104 101 109 97 7 2 108 111 110 103 116 104 114"
             + " 186 9 4 101 97 100 111 102 119 111 111 108 124 1 2 107 215 3 4 110 111 116 104 3 1 97 97 99"
             + "|4|ada 28 2 0 0 0|ben 0 0 0 0 0";
@@ -130,8 +31,7 @@ public final class FramedLogPromises {
         describeBlock();
         slots();
         undo();
-        System.out.println(wrong == 0 ? "all answers are as due" : wrong + " answers are not as due");
-        if (wrong != 0) System.exit(1);
+        tellTheEnd();
     }
 
     private static void constants() {
@@ -140,7 +40,7 @@ public final class FramedLogPromises {
     }
 
     private static void newObject() {
-        promise = 1;
+        about = "promise 1";
         FramedLog x = new FramedLog();
         due("state", all(x), OPENING);
         due("errorCode", x.errorCode(), 0);
@@ -157,7 +57,7 @@ public final class FramedLogPromises {
     }
 
     private static void input() {
-        promise = 2;
+        about = "promise 2";
         FramedLog x = loaded("block 16;");
         due("appendInput", x.appendInput(0x01020304, 0x05060708, 0x090a0b0c, 0x0d0e0f10, 0x11121314), 20);
         due("appendInput", x.appendInput(0xfffefdfc, MIN, MAX, -1, 0), 40);
@@ -175,7 +75,7 @@ public final class FramedLogPromises {
         due("appendInput at 580", x.appendInput(0, 0, 0, 0, 0), 600);
         due("no undoable call", x.undoDepth(), 2);
 
-        promise = 3;
+        about = "promise 3";
         FramedLog y = new FramedLog();
         y.appendInput(0x61626364, 0, 0, 0, 0);
         thrown("truncateInput(21)", ARGUMENT, () -> y.truncateInput(21));
@@ -190,7 +90,7 @@ public final class FramedLogPromises {
     }
 
     private static void load() {
-        promise = 4;
+        about = "promise 4";
         FramedLog x = new FramedLog();
         type(x, "block 8;\n record ab;reader q;");
         due("load", x.load(), 5);
@@ -230,12 +130,12 @@ public final class FramedLogPromises {
     private static void error(String text, int code, int position) {
         FramedLog x = new FramedLog();
         type(x, text);
-        promise = 4;
+        about = "promise 4";
         thrown("load of <" + text + ">", ARGUMENT, x::load);
         due("state after <" + text + ">", all(x), OPENING);
-        promise = 5;
+        about = "promise 5";
         due("errorCode of <" + text + ">", x.errorCode(), code);
-        promise = 6;
+        about = "promise 6";
         due("errorPosition of <" + text + ">", x.errorPosition(), position);
     }
 
@@ -307,27 +207,27 @@ public final class FramedLogPromises {
         String twelve = "block 32;" + ("record " + "b".repeat(29) + ";").repeat(12);
         error(twelve + "record cccccccccccccc;", 5, twelve.length() + 21);
         error(twelve + "record cccccccccccccc.", 1, twelve.length() + 21);
-        promise = 4;
+        about = "promise 4";
         due("13 letters fit", loaded(twelve + "record ccccccccccccc;").logLength(), 400);
         // in blocks of 11, a log of 394 bytes has 2 bytes of padding: 1 letter ends at 400, and 2 do not fit
         String padded = "block 11;" + ("record " + "b".repeat(8) + ";").repeat(35) + "record cccccc;";
         due("394 bytes", loaded(padded).logLength(), 394);
         due("1 letter fits", loaded(padded + "record d;").logLength(), 400);
         error(padded + "record dd;", 5, padded.length() + 9);
-        promise = 5;
+        about = "promise 5";
         FramedLog x = new FramedLog();
         due("errorCode without load", x.errorCode(), 0);
         type(x, "x");
         thrown("load", ARGUMENT, x::load);
         due("errorCode", x.errorCode(), 1);
-        promise = 6;
+        about = "promise 6";
         due("errorPosition", x.errorPosition(), 0);
         x.appendInput(0, 0, 0, 0, 0);
         due("errorPosition stays", x.errorPosition(), 0);
         type(x, "block 16;");
         x.load();
         due("errorPosition after a right text", x.errorPosition(), -1);
-        promise = 5;
+        about = "promise 5";
         due("errorCode after a right text", x.errorCode(), 0);
         type(x, "block 99;");
         thrown("load", ARGUMENT, x::load);
@@ -337,16 +237,16 @@ public final class FramedLogPromises {
 
     private static void simpleQuestions() {
         FramedLog x = loaded("block 9;record abcdef;record a;");
-        promise = 7;
+        about = "promise 7";
         due("blockSize", x.blockSize(), 9);
-        promise = 8;
+        about = "promise 8";
         due("logLength", x.logLength(), 13);
-        promise = 9;
+        about = "promise 9";
         due("blockCount", x.blockCount(), 2);
         due("blockCount of whole blocks", loaded("block 9;record abcdef;").blockCount(), 1);
         due("blockCount of an empty log", loaded("block 9;").blockCount(), 0);
         due("blockCount", loaded("block 9;record abcdef;record abcdef;cut 10;").blockCount(), 2);
-        promise = 10;
+        about = "promise 10";
         due("logByte(0)", x.logByte(0), (7 + 18 + 97 + 2 * 98 + 3 * 99 + 4 * 100 + 5 * 101 + 6 * 102) % 251);
         due("logByte(1)", x.logByte(1), 6);
         due("logByte(12)", x.logByte(12), 97);
@@ -355,7 +255,7 @@ public final class FramedLogPromises {
         thrown("logByte(MAX)", INDEX, () -> x.logByte(MAX));
         thrown("logByte(MIN)", INDEX, () -> x.logByte(MIN));
         thrown("logByte of an empty log", INDEX, () -> loaded("block 9;").logByte(0));
-        promise = 11;
+        about = "promise 11";
         due("writtenRecords", x.writtenRecords(), 2);
         writes(x, "z");
         due("writtenRecords", x.writtenRecords(), 3);
@@ -371,13 +271,13 @@ public final class FramedLogPromises {
 
     private static void readers() {
         FramedLog x = new FramedLog();
-        promise = 12;
+        about = "promise 12";
         due("readerCount", x.readerCount(), 2);
         type(x, "zed");
         x.addReader();
         due("readerCount", x.readerCount(), 3);
         due("readerCount", loaded("block 8;").readerCount(), 0);
-        promise = 13;
+        about = "promise 13";
         due("names", name(x, 0) + name(x, 1) + name(x, 2), "adabenzed");
         due("names of 1 and 4 letters", name(loaded("block 8;reader a;reader zzzz;"), 1), "zzzz");
         thrown("no such reader", INDEX, () -> x.readerNameByte(3, 0));
@@ -387,36 +287,36 @@ public final class FramedLogPromises {
         thrown("no such position", ELEMENT, () -> x.readerNameByte(0, MAX));
 
         FramedLog y = loaded("block 8;record abcdef;record a;record b;damage 3 1;reader r;reader s;read r 1;read s 2;");
-        promise = 14;
+        about = "promise 14";
         due("readerOffset(0)", y.readerOffset(0), 16);
         due("readerOffset(1)", y.readerOffset(1), 20);
-        promise = 15;
+        about = "promise 15";
         due("recordsRead(0)", y.recordsRead(0), 1);
         due("recordsRead(1)", y.recordsRead(1), 2);
-        promise = 16;
+        about = "promise 16";
         due("damageProblems(0)", y.damageProblems(0), 1);
-        promise = 17;
+        about = "promise 17";
         due("incompleteProblems(0)", y.incompleteProblems(0), 0);
-        promise = 18;
+        about = "promise 18";
         due("orphanProblems(0)", y.orphanProblems(0), 1);
         int[] odd = {2, -1, MAX, MIN, 4};
         for (int r : odd) {
-            promise = 14;
+            about = "promise 14";
             thrown("readerOffset", INDEX, () -> y.readerOffset(r));
-            promise = 15;
+            about = "promise 15";
             thrown("recordsRead", INDEX, () -> y.recordsRead(r));
-            promise = 16;
+            about = "promise 16";
             thrown("damageProblems", INDEX, () -> y.damageProblems(r));
-            promise = 17;
+            about = "promise 17";
             thrown("incompleteProblems", INDEX, () -> y.incompleteProblems(r));
-            promise = 18;
+            about = "promise 18";
             thrown("orphanProblems", INDEX, () -> y.orphanProblems(r));
         }
     }
 
     private static void fragments() {
         FramedLog x = new FramedLog();
-        promise = 19;
+        about = "promise 19";
         StringBuilder s = new StringBuilder();
         for (int i = 0; i < 44; i++) if (x.isFragmentStart(i)) s.append(i).append(' ');
         due("starts", s.toString(), "0 6 16 28 32 38 ");
@@ -439,16 +339,16 @@ public final class FramedLogPromises {
         due("behind a broken one", loaded("block 16;record abc;record d;damage 2 4;").isFragmentStart(6), false);
         due("in the next block", loaded("block 16;record abc;record abcdefgh;damage 2 4;").isFragmentStart(16), true);
 
-        promise = 20;
+        about = "promise 20";
         due("types", x.fragmentType(0) + " " + x.fragmentType(6) + " " + x.fragmentType(16), "1 2 4");
         due("MIDDLE", loaded("block 8;record aaaaaaaaaaaa;").fragmentType(8), FramedLog.MIDDLE);
-        promise = 21;
+        about = "promise 21";
         due("lengths", x.fragmentLength(0) + " " + x.fragmentLength(6) + " " + x.fragmentLength(38), "3 7 3");
         due("length 0", loaded("block 8;record ab;record xy;").fragmentLength(5), 0);
-        promise = 22;
+        about = "promise 22";
         due("checksums", x.expectedChecksum(0) + " " + x.expectedChecksum(38) + " " + x.expectedChecksum(28), "147 102 124");
         due("whatever its header contains", loaded("block 8;record ab;damage 0 200;").expectedChecksum(0), 55);
-        promise = 23;
+        about = "promise 23";
         due("right", x.isChecksumRight(0), true);
         due("wrong", x.isChecksumRight(38), false);
         // 0 and 251 have the same remainder, but a header of 251 is wrong all the same
@@ -463,30 +363,30 @@ public final class FramedLogPromises {
         due("0 is right", r.isChecksumRight(0), true);
         int[] odd = {1, -1, 7, 43, 44, 45, MAX, MIN, MAX - 2};
         for (int at : odd) {
-            promise = 20;
+            about = "promise 20";
             thrown("fragmentType", ARGUMENT, () -> x.fragmentType(at));
-            promise = 21;
+            about = "promise 21";
             thrown("fragmentLength", ARGUMENT, () -> x.fragmentLength(at));
-            promise = 22;
+            about = "promise 22";
             thrown("expectedChecksum", ARGUMENT, () -> x.expectedChecksum(at));
-            promise = 23;
+            about = "promise 23";
             thrown("isChecksumRight", ARGUMENT, () -> x.isChecksumRight(at));
         }
 
-        promise = 24;
+        about = "promise 24";
         due("fragmentCount", x.fragmentCount(), 6);
         due("of an empty log", loaded("block 8;").fragmentCount(), 0);
         due("after a broken one", loaded("block 16;record abc;record d;record abcdef;damage 2 4;").fragmentCount(), 1);
         due("two in a block", loaded("block 8;record a;record b;record cdefg;").fragmentCount(), 3);
-        promise = 25;
+        about = "promise 25";
         due("wrongChecksums", x.wrongChecksums(), 1);
         due("two", loaded("block 8;record a;record b;record cdefg;damage 0 1;damage 12 1;").wrongChecksums(), 2);
         due("none", loaded("block 8;record a;").wrongChecksums(), 0);
-        promise = 26;
+        about = "promise 26";
         due("firstWrongChecksum", x.firstWrongChecksum(), 38);
         due("two", loaded("block 8;record a;record b;record cdefg;damage 4 1;damage 12 1;").firstWrongChecksum(), 4);
         due("none", loaded("block 8;record a;").firstWrongChecksum(), -1);
-        promise = 27;
+        about = "promise 27";
         due("bytesAfterFragments", x.bytesAfterFragments(0) + " " + x.bytesAfterFragments(2), "0 0");
         FramedLog c = loaded("block 16;record abc;record dddddddddddddddddddd;record e;damage 2 4;cut 25;");
         due("the whole block", c.bytesAfterFragments(0), 16);
@@ -500,36 +400,36 @@ public final class FramedLogPromises {
 
     private static void records() {
         FramedLog x = new FramedLog();
-        promise = 28;
+        about = "promise 28";
         due("recordCount", x.recordCount(), 3);
         due("of an empty log", loaded("block 8;").recordCount(), 0);
         due("behind damage", loaded("block 8;record abcde;record b;damage 3 1;").recordCount(), 1);
-        promise = 29;
+        about = "promise 29";
         due("recordStart", x.recordStart(0) + " " + x.recordStart(1) + " " + x.recordStart(2), "0 6 28");
         due("after padding", loaded("block 8;record abc;record ab;").recordStart(1), 8);
         due("behind an incomplete one", restarted().recordStart(0), 8);
-        promise = 30;
+        about = "promise 30";
         due("recordLength", x.recordLength(0) + " " + x.recordLength(1) + " " + x.recordLength(2), "3 16 4");
-        promise = 31;
+        about = "promise 31";
         due("recordByte", record(x, 0) + record(x, 1) + record(x, 2), "hemlongthreadofwoolknot");
         thrown("no such position", ELEMENT, () -> x.recordByte(0, 3));
         thrown("no such position", ELEMENT, () -> x.recordByte(0, -1));
         thrown("no such position", ELEMENT, () -> x.recordByte(2, MAX));
-        promise = 32;
+        about = "promise 32";
         due("recordFragments", x.recordFragments(0) + " " + x.recordFragments(1) + " " + x.recordFragments(2), "1 2 2");
         due("behind an incomplete one", restarted().recordFragments(0), 1);
         int[] odd = {3, -1, MAX, MIN, 400};
         for (int r : odd) {
-            promise = 29;
+            about = "promise 29";
             thrown("recordStart", INDEX, () -> x.recordStart(r));
-            promise = 30;
+            about = "promise 30";
             thrown("recordLength", INDEX, () -> x.recordLength(r));
-            promise = 31;
+            about = "promise 31";
             thrown("recordByte", INDEX, () -> x.recordByte(r, -1));
-            promise = 32;
+            about = "promise 32";
             thrown("recordFragments", INDEX, () -> x.recordFragments(r));
         }
-        promise = 33;
+        about = "promise 33";
         due("longestRecord", x.longestRecord(), 1);
         due("the smallest number", loaded("block 8;record a;record bb;record cc;record d;").longestRecord(), 1);
         due("none", loaded("block 8;").longestRecord(), -1);
@@ -560,12 +460,12 @@ public final class FramedLogPromises {
         // an orphan in the last bytes
         due34(loaded("block 8;record abcdefgh;damage 3 1;"), 0, 2, 12);
 
-        promise = 37;
+        about = "promise 37";
         due("sharePayload", x.sharePayload(), (float) 23 / (float) 44);
         due("of an empty log", loaded("block 8;").sharePayload(), 0.0f);
         due("of no records", loaded("block 8;record a;damage 0 1;").sharePayload(), 0.0f);
         due("sharePayload", loaded("block 8;record a;").sharePayload(), 0.25f);
-        promise = 38;
+        about = "promise 38";
         due("meanRecordLength", x.meanRecordLength(), 23.0 / 3.0);
         due("of an empty log", loaded("block 8;").meanRecordLength(), 0.0);
         due("of no records", loaded("block 8;record a;damage 0 1;").meanRecordLength(), 0.0);
@@ -573,17 +473,18 @@ public final class FramedLogPromises {
     }
 
     private static void due34(FramedLog x, int readable, int padding, int unreadable) {
-        promise = 34;
-        due("readableBytes of " + all(x), x.readableBytes(), readable);
-        promise = 35;
-        due("paddingBytes of " + all(x), x.paddingBytes(), padding);
-        promise = 36;
-        due("unreadableBytes of " + all(x), x.unreadableBytes(), unreadable);
-        due("unreadableBytes first of " + all(copy(x)), copy(x).unreadableBytes(), unreadable);
-        promise = 35;
-        due("paddingBytes first of " + all(x), copy(x).paddingBytes(), padding);
-        promise = 36;
-        due("the sum", x.readableBytes() + x.paddingBytes() + x.unreadableBytes(), x.logLength());
+        String log = " of " + all(x);
+        FramedLog paddingFirst = copy(x);
+        FramedLog unreadableFirst = copy(x);
+        about = "promise 34";
+        due("readableBytes" + log, x.readableBytes(), readable);
+        about = "promise 35";
+        due("paddingBytes" + log, x.paddingBytes(), padding);
+        due("paddingBytes first" + log, paddingFirst.paddingBytes(), padding);
+        about = "promise 36";
+        due("unreadableBytes" + log, x.unreadableBytes(), unreadable);
+        due("unreadableBytes first" + log, unreadableFirst.unreadableBytes(), unreadable);
+        due("the sum" + log, x.readableBytes() + x.paddingBytes() + x.unreadableBytes(), x.logLength());
     }
 
     /** A new object with the same log, that has answered no question yet. */
@@ -596,34 +497,34 @@ public final class FramedLogPromises {
     private static void nextRecords() {
         FramedLog x = new FramedLog();
         FramedLog d = loaded("block 8;record abcdef;record a;record b;damage 3 1;reader r;reader s;read s 20;");
-        promise = 39;
+        about = "promise 39";
         due("recordsLeft", x.recordsLeft(0) + " " + x.recordsLeft(1) + " " + d.recordsLeft(0) + " " + d.recordsLeft(1), "1 3 2 0");
-        promise = 40;
+        about = "promise 40";
         due("nextRecordLength", x.nextRecordLength(0) + " " + x.nextRecordLength(1) + " " + d.nextRecordLength(1), "4 3 -1");
-        promise = 41;
+        about = "promise 41";
         due("nextRecordStart", x.nextRecordStart(0) + " " + d.nextRecordStart(0) + " " + d.nextRecordStart(1), "28 12 -1");
         due("behind an incomplete one", restarted().nextRecordStart(0), 8);
-        promise = 42;
+        about = "promise 42";
         due("offsetAfterNext", x.offsetAfterNext(0) + " " + d.offsetAfterNext(0) + " " + d.offsetAfterNext(1), "38 16 -1");
-        promise = 43;
+        about = "promise 43";
         due("problemsBeforeNext", x.problemsBeforeNext(0) + " " + d.problemsBeforeNext(0) + " " + d.problemsBeforeNext(1), "0 2 -1");
         due("incomplete", restarted().problemsBeforeNext(0), 1);
         FramedLog f = loaded("block 8;record abcde;reader r;damage 3 1;");
         due("problems of a failed search", f.problemsBeforeNext(0), -1);
         for (int r : new int[] {2, -1, MAX, MIN}) {
-            promise = 39;
+            about = "promise 39";
             thrown("recordsLeft", INDEX, () -> x.recordsLeft(r));
-            promise = 40;
+            about = "promise 40";
             thrown("nextRecordLength", INDEX, () -> x.nextRecordLength(r));
-            promise = 41;
+            about = "promise 41";
             thrown("nextRecordStart", INDEX, () -> x.nextRecordStart(r));
-            promise = 42;
+            about = "promise 42";
             thrown("offsetAfterNext", INDEX, () -> x.offsetAfterNext(r));
-            promise = 43;
+            about = "promise 43";
             thrown("problemsBeforeNext", INDEX, () -> x.problemsBeforeNext(r));
         }
         due("nothing is changed", all(x), OPENING);
-        promise = 44;
+        about = "promise 44";
         due("slowestReader", x.slowestReader(), 1);
         due("the smallest number", loaded("block 8;record a;reader p;reader q;reader r;read p 1;").slowestReader(), 1);
         due("no readers", loaded("block 8;").slowestReader(), -1);
@@ -635,32 +536,32 @@ public final class FramedLogPromises {
 
     private static void writing() {
         FramedLog x = new FramedLog();
-        promise = 45;
+        about = "promise 45";
         due("writeCost", x.writeCost(1) + " " + x.writeCost(5) + " " + x.writeCost(40), "4 11 52");
         due("with padding", loaded("block 8;record abc;").writeCost(1) + " " + loaded("block 8;record abcd;").writeCost(5), "6 9");
         due("in an empty log", loaded("block 8;").writeCost(5) + " " + loaded("block 8;").writeCost(6), "8 12");
         due("with an empty fragment", loaded("block 8;record ab;").writeCost(1), 7);
-        promise = 46;
+        about = "promise 46";
         due("fragmentsFor", x.fragmentsFor(1) + " " + x.fragmentsFor(5) + " " + x.fragmentsFor(40), "1 2 4");
         due("with padding", loaded("block 8;record abc;").fragmentsFor(5), 1);
         due("with an empty fragment", loaded("block 8;record ab;").fragmentsFor(1), 2);
         for (int n : new int[] {0, 41, -1, MAX, MIN}) {
-            promise = 45;
+            about = "promise 45";
             thrown("writeCost", ARGUMENT, () -> x.writeCost(n));
-            promise = 46;
+            about = "promise 46";
             thrown("fragmentsFor", ARGUMENT, () -> x.fragmentsFor(n));
         }
         FramedLog full = loaded("block 8;" + "record abcde;".repeat(40));
         for (int i = 0; i < 10; i++) writes(full, "abcde");
-        promise = 45;
+        about = "promise 45";
         due("whether it fits or not", full.logLength() + " " + full.writeCost(40), "400 64");
-        promise = 46;
+        about = "promise 46";
         due("whether it fits or not", full.fragmentsFor(40), 8);
     }
 
     private static void whatIf() {
         FramedLog x = new FramedLog();
-        promise = 47;
+        about = "promise 47";
         due("recordsIfDamaged", x.recordsIfDamaged(0) + " " + x.recordsIfDamaged(20) + " " + x.recordsIfDamaged(30) + " " + x.recordsIfDamaged(43),
                 "1 1 2 3");
         FramedLog p = loaded("block 8;record abc;record d;");
@@ -668,25 +569,25 @@ public final class FramedLogPromises {
         thrown("recordsIfDamaged(44)", INDEX, () -> x.recordsIfDamaged(44));
         thrown("recordsIfDamaged(-1)", INDEX, () -> x.recordsIfDamaged(-1));
         thrown("recordsIfDamaged(MAX)", INDEX, () -> x.recordsIfDamaged(MAX));
-        promise = 48;
+        about = "promise 48";
         due("weakestOffset", x.weakestOffset(), 0);
         due("not the first", loaded("block 8;record abcde;record a;record b;").weakestOffset(), 8);
         due("none", loaded("block 8;").weakestOffset(), -1);
         due("no records", loaded("block 8;record a;damage 0 1;").weakestOffset(), 0);
-        promise = 49;
+        about = "promise 49";
         due("recordsIfTruncated", x.recordsIfTruncated(0) + " " + x.recordsIfTruncated(5) + " " + x.recordsIfTruncated(6) + " "
                 + x.recordsIfTruncated(27) + " " + x.recordsIfTruncated(28) + " " + x.recordsIfTruncated(44), "0 0 1 1 2 3");
         due("as the first question", new FramedLog().recordsIfTruncated(28), 2);
         thrown("recordsIfTruncated(45)", ARGUMENT, () -> x.recordsIfTruncated(45));
         thrown("recordsIfTruncated(-1)", ARGUMENT, () -> x.recordsIfTruncated(-1));
         thrown("recordsIfTruncated(MIN)", ARGUMENT, () -> x.recordsIfTruncated(MIN));
-        promise = 47;
+        about = "promise 47";
         due("nothing is changed", all(x), OPENING);
         due("nothing is remembered", x.undoDepth(), 0);
     }
 
     private static void writeRecord() {
-        promise = 50;
+        about = "promise 50";
         FramedLog x = loaded("block 8;");
         thrown("of nothing", ARGUMENT, x::writeRecord);
         type(x, A40 + "a");
@@ -709,9 +610,8 @@ public final class FramedLogPromises {
         FramedLog full = loaded("block 8;" + "record abcde;".repeat(40));
         for (int i = 0; i < 9; i++) writes(full, "abcde");
         type(full, "abcdef");
-        String before = all(full);
         thrown("over 400", STATE, full::writeRecord);
-        due("nothing is changed", all(full), before);
+        due("nothing is changed", full.logLength() + " " + full.writtenRecords() + " " + full.recordCount(), "392 49 49");
         due("the input is as before", full.truncateInput(5), 5);
         due("to 400", full.writeRecord(), 1);
         due("400", full.logLength(), 400);
@@ -720,7 +620,7 @@ public final class FramedLogPromises {
     }
 
     private static void addReader() {
-        promise = 51;
+        about = "promise 51";
         FramedLog x = new FramedLog();
         for (String bad : new String[] {"", "abcde", "Ab", "a1", "a b", "a\u0000", "\u00e1", "`", "{", "a;"}) {
             type(x, bad);
@@ -752,7 +652,7 @@ public final class FramedLogPromises {
     }
 
     private static void read() {
-        promise = 52;
+        about = "promise 52";
         FramedLog x = new FramedLog();
         due("read(1)", x.read(1), 3);
         due("output", output(x, 3), "hem");
@@ -780,51 +680,47 @@ public final class FramedLogPromises {
         thrown("no output", ELEMENT, () -> e.outputByte(0));
     }
 
-    private static String counts(FramedLog x) {
-        return x.readerOffset(0) + " " + x.recordsRead(0) + " " + x.damageProblems(0) + " " + x.incompleteProblems(0) + " " + x.orphanProblems(0);
-    }
-
     private static void searchSteps() {
-        promise = 52;
+        about = "promise 52";
         FramedLog a = loaded("block 8;record abc;record de;reader r;read r 1;");
         a.read(0);
-        due("(a) padding is skipped", counts(a), "13 2 0 0 0");
+        due("(a) padding is skipped", counts(a, 0), "13 2 0 0 0");
         FramedLog b = loaded("block 8;record abc;reader r;cut 2;");
         thrown("(b) the header is cut", ELEMENT, () -> b.read(0));
         FramedLog c = loaded("block 8;record abcde;record f;reader r;damage 2 4;");
         c.read(0);
-        due("(c) type 5", counts(c), "12 1 1 0 0");
+        due("(c) type 5", counts(c, 0), "12 1 1 0 0");
         FramedLog c2 = loaded("block 8;record abcde;record f;reader r;damage 1 3;");
         c2.read(0);
-        due("(c) the payload leaves the block", counts(c2), "12 1 1 0 0");
+        due("(c) the payload leaves the block", counts(c2, 0), "12 1 1 0 0");
         FramedLog c3 = loaded("block 8;record abc;reader r;damage 1 128;");
         thrown("(c) before (d)", ELEMENT, () -> c3.read(0));
         type(c3, "x");
         c3.writeRecord();
-        due("(c) before (d)", c3.read(0) + " " + counts(c3), "1 12 1 1 0 0");
+        due("(c) before (d)", c3.read(0) + " " + counts(c3, 0), "1 12 1 1 0 0");
         FramedLog d = loaded("block 8;record abcde;reader r;cut 7;");
         thrown("(d) the payload is cut", ELEMENT, () -> d.read(0));
-        due("(d) no problem is added", counts(d), "0 0 0 0 0");
+        due("(d) no problem is added", counts(d, 0), "0 0 0 0 0");
         FramedLog e = loaded("block 8;record abcde;record f;reader r;damage 0 1;");
         e.read(0);
-        due("(e) a wrong checksum", counts(e), "12 1 1 0 0");
+        due("(e) a wrong checksum", counts(e, 0), "12 1 1 0 0");
         FramedLog e2 = loaded("block 8;record abcdefghijkl;record m;reader r;damage 8 1;");
-        due("(e) ends a record", e2.read(0) + " " + counts(e2), "1 " + e2.readerOffset(0) + " 1 1 0 1");
+        due("(e) ends a record", e2.read(0) + " " + counts(e2, 0), "1 " + e2.readerOffset(0) + " 1 1 0 1");
         FramedLog f = restarted();
         f.read(0);
-        due("(f) incomplete by FULL", counts(f), "14 1 0 1 0");
+        due("(f) incomplete by FULL", counts(f, 0), "14 1 0 1 0");
         FramedLog f2 = loaded("block 8;record abcde;record fghijk;reader r;damage 2 3;");
         f2.repair(0);
-        due("(f) incomplete by FIRST", f2.read(0) + " " + counts(f2), "6 20 1 0 1 0");
+        due("(f) incomplete by FIRST", f2.read(0) + " " + counts(f2, 0), "6 20 1 0 1 0");
         FramedLog f3 = loaded("block 16;record abc;record def;reader r;damage 2 2;");
         f3.repair(0);
-        due("(f) orphan MIDDLE, in the same block", f3.read(0) + " " + counts(f3), "3 12 1 0 0 1");
+        due("(f) orphan MIDDLE, in the same block", f3.read(0) + " " + counts(f3, 0), "3 12 1 0 0 1");
         FramedLog f4 = loaded("block 16;record abc;record def;reader r;damage 2 5;");
         f4.repair(0);
-        due("(f) orphan LAST", f4.read(0) + " " + counts(f4), "3 12 1 0 0 1");
+        due("(f) orphan LAST", f4.read(0) + " " + counts(f4, 0), "3 12 1 0 0 1");
         FramedLog t = troubled();
-        due("(g) the problems are added", counts(t), "48 2 2 2 2");
-        due("a search without problems adds none", t.read(0) + " " + counts(t), "1 52 3 2 2 2");
+        due("(g) the problems are added", counts(t, 0), "48 2 2 2 2");
+        due("a search without problems adds none", t.read(0) + " " + counts(t, 0), "1 52 3 2 2 2");
         FramedLog g = loaded("block 8;record " + "x".repeat(35) + ";record yyyyy;record zzzzz;reader r;");
         g.damage(6 * 8 + 2, 4 ^ 3);
         g.repair(6 * 8);
@@ -835,7 +731,7 @@ public final class FramedLogPromises {
         due("(g) more than 40 bytes", g.read(0) + " " + g.recordFragments(0) + " " + g.outputByte(44), "45 9 122");
         FramedLog h = loaded("block 8;record abcdef;record a;record b;damage 3 1;cut 14;reader r;");
         thrown("problems, and then no record", ELEMENT, () -> h.read(0));
-        due("the reader does not change", counts(h), "0 0 0 0 0");
+        due("the reader does not change", counts(h, 0), "0 0 0 0 0");
     }
 
     /** A reader that has met each kind of problem once before each of two records. */
@@ -853,7 +749,7 @@ public final class FramedLogPromises {
     }
 
     private static void seek() {
-        promise = 53;
+        about = "promise 53";
         FramedLog x = new FramedLog();
         due("seek", x.seek(0, 1) + " " + x.readerOffset(0) + " " + x.recordsRead(0), "16 16 2");
         due("to the last block", x.seek(0, 2), 32);
@@ -872,11 +768,11 @@ public final class FramedLogPromises {
         thrown("in an empty log", ARGUMENT, () -> e.seek(0, 1));
         FramedLog d = loaded("block 8;record abcde;record a;damage 0 1;reader r;read r 1;");
         d.seek(0, 0);
-        due("the counts do not change", counts(d), "0 1 1 0 0");
+        due("the counts do not change", counts(d, 0), "0 1 1 0 0");
     }
 
     private static void truncateLog() {
-        promise = 54;
+        about = "promise 54";
         FramedLog x = new FramedLog();
         due("truncateLog(44)", x.truncateLog(44), 0);
         due("truncateLog(28)", x.truncateLog(28) + " " + x.readerOffset(0), "16 28");
@@ -890,7 +786,7 @@ public final class FramedLogPromises {
     }
 
     private static void damage() {
-        promise = 55;
+        about = "promise 55";
         FramedLog x = new FramedLog();
         due("damage(0, 1)", x.damage(0, 1) + " " + x.logByte(0), "146 146");
         due("damage(43, 255)", x.damage(43, 255) + " " + x.logByte(43), "156 156");
@@ -906,7 +802,7 @@ public final class FramedLogPromises {
     }
 
     private static void repair() {
-        promise = 56;
+        about = "promise 56";
         FramedLog x = new FramedLog();
         due("repair(38)", x.repair(38) + " " + x.logByte(38) + " " + x.recordCount(), "104 102 4");
         due("repair of a right one", x.repair(0) + " " + x.logByte(0), "147 147");
@@ -916,7 +812,7 @@ public final class FramedLogPromises {
     }
 
     private static void dropBlocks() {
-        promise = 57;
+        about = "promise 57";
         FramedLog x = new FramedLog();
         thrown("dropBlocks(0)", ARGUMENT, () -> x.dropBlocks(0));
         thrown("dropBlocks(-1)", ARGUMENT, () -> x.dropBlocks(-1));
@@ -934,7 +830,7 @@ public final class FramedLogPromises {
     }
 
     private static void compact() {
-        promise = 58;
+        about = "promise 58";
         FramedLog x = new FramedLog();
         due("compact", x.compact(), 6);
         due("state", all(x), OPENING.substring(0, OPENING.indexOf(" 104 3 1 97 97 99")) + "|4|ada 28 2 0 0 0|ben 0 0 0 0 0");
@@ -968,12 +864,8 @@ public final class FramedLogPromises {
         due("the first start not less than the offset", p.compact() + " " + p.readerOffset(0) + " " + p.recordStart(1), "0 12 12");
     }
 
-    private static String described(FramedLog x, int block) {
-        return output(x, x.describeBlock(block));
-    }
-
     private static void describeBlock() {
-        promise = 59;
+        about = "promise 59";
         FramedLog x = new FramedLog();
         due("blocks", described(x, 0) + "," + described(x, 1) + "," + described(x, 2), "F3 I7,L9 I1,L3 F3!");
         thrown("the previous output is discarded", ELEMENT, () -> x.outputByte(6));
@@ -993,7 +885,7 @@ public final class FramedLogPromises {
         thrown("no such block", INDEX, () -> x.describeBlock(MAX));
         due("the output is as before", output(x, 6), "L3 F3!");
         due("no undoable call", x.undoDepth(), 0);
-        promise = 60;
+        about = "promise 60";
         due("outputByte(0)", x.outputByte(0), 76);
         thrown("outputByte(6)", ELEMENT, () -> x.outputByte(6));
         thrown("outputByte(-1)", ELEMENT, () -> x.outputByte(-1));
@@ -1005,11 +897,11 @@ public final class FramedLogPromises {
 
     private static void slots() {
         FramedLog x = new FramedLog();
-        promise = 61;
+        about = "promise 61";
         due("save", x.save(0), 44);
         due("no undoable call", x.undoDepth(), 0);
         for (int slot : new int[] {2, -1, MAX, MIN}) thrown("no such slot", INDEX, () -> x.save(slot));
-        promise = 62;
+        about = "promise 62";
         for (int slot : new int[] {2, -1, MAX, MIN}) thrown("no such slot", INDEX, () -> x.restore(slot));
         thrown("an empty slot", STATE, () -> x.restore(1));
         due("nothing is remembered", x.undoDepth(), 0);
@@ -1027,7 +919,7 @@ public final class FramedLogPromises {
         x.save(0);
         x.undo();
         due("undo leaves the slots", x.restore(0), 28);
-        promise = 61;
+        about = "promise 61";
         FramedLog t = troubled();
         String troubles = all(t);
         t.save(0);
@@ -1040,34 +932,33 @@ public final class FramedLogPromises {
     }
 
     private static void undo() {
-        promise = 63;
-        FramedLog x = new FramedLog();
+        about = "promise 63";
+        FramedLog x = loaded("block 8;record a;record b;reader r;cut 7;");
         String[] states = new String[12];
         for (int i = 0; i < 12; i++) {
             states[i] = all(x);
-            x.damage(i, 255);
-            promise = 64;
-            due("undoDepth", x.undoDepth(), Math.min(i + 1, 8));
+            x.damage(i % 7, 255);
+            about = "promise 64";
+            due("undoDepth", x.undoDepth(), Math.min(i + 2, 8));
         }
-        promise = 63;
+        about = "promise 63";
         for (int i = 7; i >= 0; i--) {
             due("undo", x.undo(), i);
             due("state", all(x), states[i + 4]);
         }
         thrown("no call is remembered", STATE, x::undo);
         due("nothing is changed", all(x), states[4]);
-        promise = 64;
+        about = "promise 64";
         due("undoDepth", x.undoDepth(), 0);
 
-        promise = 63;
+        about = "promise 63";
         FramedLog y = new FramedLog();
-        y.save(0);
-        type(y, "block 8;record abcde;reader q;");
+        type(y, "block 8;record a;reader q;");
         y.load();
         String[] kept = new String[10];
         int n = 0;
         kept[n++] = all(y);
-        writes(y, "zz");
+        writes(y, "z");
         kept[n++] = all(y);
         type(y, "w");
         y.addReader();
@@ -1084,15 +975,17 @@ public final class FramedLogPromises {
         kept[n++] = all(y);
         for (int i = 6; i >= 0; i--) due("undo to " + i, y.undo() + " " + all(y).equals(kept[i]), (i + 1) + " true");
         due("undo of load", y.undo() + " " + all(y).equals(OPENING), "0 true");
-        y.truncateLog(3);
-        y.restore(0);
-        y.dropBlocks(1);
-        due("undo of dropBlocks", y.undo() + " " + all(y).equals(OPENING), "2 true");
-        due("undo of restore", y.undo() + " " + y.logLength(), "1 3");
-        due("undo of truncateLog", y.undo() + " " + all(y).equals(OPENING), "0 true");
-        type(y, "abc");
-        y.damage(0, 1);
-        y.undo();
-        due("undo leaves the input", y.truncateInput(3), 3);
+        FramedLog z = new FramedLog();
+        z.save(0);
+        z.truncateLog(3);
+        z.restore(0);
+        z.dropBlocks(1);
+        due("undo of dropBlocks", z.undo() + " " + all(z).equals(OPENING), "2 true");
+        due("undo of restore", z.undo() + " " + z.logLength(), "1 3");
+        due("undo of truncateLog", z.undo() + " " + all(z).equals(OPENING), "0 true");
+        type(z, "abc");
+        z.damage(0, 1);
+        z.undo();
+        due("undo leaves the input", z.truncateInput(3), 3);
     }
 }
