@@ -34,6 +34,10 @@ public final class FramedLogEdges extends Checks {
         describeBlock();
         slots();
         undo();
+        countsAreKept();
+        fullOfFragments();
+        fullOfDamage();
+        fullOfOneRecord();
         tellTheEnd();
     }
 
@@ -714,5 +718,101 @@ public final class FramedLogEdges extends Checks {
     private static void takeBack(FramedLog x, List<Integer> due) {
         int value = due.remove(due.size() - 1);
         due("undo and the state", x.undo() + " " + x.logByte(0), due.size() + " " + value);
+    }
+
+    /** A reader that has met a damage problem, two incomplete ones and three orphans. */
+    private static FramedLog troubled() {
+        FramedLog x = raw(8, broken(full("abcde")) + middle("abcde") + last("abcde") + last("abcde") + first("abcde") + first("abcde") + full("xy"));
+        x.read(0);
+        return x;
+    }
+
+    private static void countsAreKept() {
+        about = "section 5: the state is the block size, the log, the readers with their counts and the number of written records";
+        String state = all(troubled());
+        FramedLog x = troubled();
+        x.save(1);
+        type(x, "block 9;reader r;reader s;record a;");
+        x.load();
+        due("undo of load", (x.undo() < 8) + " " + all(x).equals(state), "true true");
+        type(x, "block 9;");
+        x.load();
+        x.restore(1);
+        due("restore", all(x), state);
+        type(x, "block 9;reader s;");
+        x.load();
+        due("a reader in the place of another one", all(x), "9||0|s 0 0 0 0 0");
+    }
+
+    /** 133 fragments without payload, as many as 400 bytes can hold, and one byte more. */
+    private static FramedLog crowded(int firstType, int type, int lastType) {
+        FramedLog x = loaded("block 30;reader r;");
+        for (int block = 0; block <= 13; block++) {
+            String rest = block < 13 ? fragment(type, "").repeat(9) : fragment(type, "") + fragment(lastType, "") + "\0";
+            writes(x, rest);
+            x.damage(30 * block + 1, rest.length());
+            int opening = block == 0 ? firstType : type;
+            if (opening != FramedLog.FULL) x.damage(30 * block + 2, FramedLog.FULL ^ opening);
+            x.repair(30 * block);
+        }
+        return x;
+    }
+
+    private static void fullOfFragments() {
+        int whole = FramedLog.FULL, opening = FramedLog.FIRST, middle = FramedLog.MIDDLE, closing = FramedLog.LAST;
+        about = "section 1: at most 400 bytes, with as many records as they can hold";
+        FramedLog x = crowded(whole, whole, whole);
+        due("fragments", x.logLength() + " " + fragmentNumbers(x) + " " + x.bytesAfterFragments(13), "400 133 0 -1 1");
+        due("records", x.recordCount() + " " + x.recordStart(132) + " " + x.recordLength(132) + " " + x.longestRecord() + " " + x.meanRecordLength(), "133 396 0 0 0.0");
+        thrown("one more", INDEX, () -> x.recordStart(133));
+        due("the next ones", next(x), "133 0 0 3 0");
+        due("bytes", kinds(x), "399 0 1");
+        due("damaged", x.recordsIfDamaged(0) + " " + x.recordsIfDamaged(398) + " " + x.recordsIfDamaged(399) + " " + x.weakestOffset(), "123 132 133 0");
+        due("truncated", x.recordsIfTruncated(399) + " " + x.recordsIfTruncated(398), "133 132");
+        x.seek(0, 13);
+        due("compact", x.compact() + " " + x.recordCount() + " " + x.readerOffset(0) + " " + x.logLength(), "1 133 390 399");
+
+        about = "section 3: one record with as many fragments as 400 bytes can hold";
+        FramedLog one = crowded(opening, middle, closing);
+        due("the record", one.recordCount() + " " + one.recordFragments(0) + " " + one.recordLength(0) + " " + one.recordStart(0), "1 133 0 0");
+        due("bytes", kinds(one), "399 0 1");
+        due("compact", one.compact() + " " + bytes(one), "397 " + bytes(raw(8, full(""))));
+
+        about = "section 3: as many problems as 400 bytes can hold";
+        FramedLog orphans = crowded(closing, closing, whole);
+        due("orphans", next(orphans) + ", " + orphans.read(0) + " " + counts(orphans, 0), "1 0 396 399 132, 0 399 1 0 0 132");
+        FramedLog incompletes = crowded(opening, opening, whole);
+        due("incompletes", next(incompletes) + ", " + incompletes.read(0) + " " + counts(incompletes, 0), "1 0 396 399 132, 0 399 1 0 132 0");
+        due("no record", crowded(middle, middle, middle).recordCount() + " " + next(crowded(opening, middle, middle)), "0 0 -1 -1 -1 -1");
+    }
+
+    private static void fullOfDamage() {
+        about = "section 3: as many damage problems as 400 bytes can hold";
+        FramedLog x = loaded("block 8;" + "record abcde;".repeat(44) + "reader r;");
+        for (int i = 0; i < 6; i++) writes(x, "abcde");
+        for (int block = 0; block < 49; block++) x.damage(8 * block, 1);
+        due("the search", next(x), "1 5 392 400 49");
+        due("read", x.read(0) + " " + counts(x, 0), "5 400 1 49 0 0");
+        due("fragments", fragmentNumbers(x), "50 49 0");
+        due("compact", x.compact() + " " + counts(x, 0), "392 8 1 49 0 0");
+        x.damage(0, 1);
+        due("compact again", x.compact() + " " + counts(x, 0), "8 0 1 49 0 0");
+    }
+
+    private static void fullOfOneRecord() {
+        about = "section 3: one record of as many bytes as 400 can hold";
+        FramedLog x = loaded(FULL_TEXT + "reader r;");
+        for (int block = 0; block <= 12; block++) {
+            int type = block == 0 ? FramedLog.FIRST : block == 12 ? FramedLog.LAST : FramedLog.MIDDLE;
+            x.damage(32 * block + 2, FramedLog.FULL ^ type);
+            x.repair(32 * block);
+        }
+        due("the record", x.recordCount() + " " + x.recordLength(0) + " " + x.recordFragments(0) + " " + x.recordByte(0, 347) + " " + x.recordByte(0, 348)
+                + " " + x.recordByte(0, 360), "1 361 13 97 98 98");
+        thrown("behind it", ELEMENT, () -> x.recordByte(0, 361));
+        due("next", next(x), "1 361 0 400 0");
+        due("read", x.read(0) + " " + x.outputByte(347) + " " + x.outputByte(348) + " " + x.outputByte(360), "361 97 98 98");
+        thrown("behind the output", ELEMENT, () -> x.outputByte(361));
+        due("compact", x.compact() + " " + counts(x, 0) + " " + x.recordLength(0) + " " + x.recordByte(0, 360), "0 400 1 0 0 0 361 98");
     }
 }

@@ -482,6 +482,16 @@ public final class FramedLogTerms extends Checks {
             text += token;
         }
 
+        sentence("4: Error 1: a word that is not quite the keyword.");
+        for (String keyword : new String[] {"record", "reader", "read", "cut", "damage"}) {
+            error("block 8;x" + keyword.substring(1) + " a 1;", 1, 8);
+            error("block 8;" + keyword.substring(0, keyword.length() - 1) + "x a 1;", 1, 8);
+            error("block 8;" + keyword + "s a 1;", 1, 8);
+            error("block 8;" + keyword.substring(0, keyword.length() - 1) + ";", 1, 8);
+            error("block 8;" + keyword.toUpperCase() + " a 1;", 1, 8);
+        }
+        for (String word : new String[] {"xlock", "blocx", "blocks", "bloc", "b"}) error(word + " 8;", 1, 0);
+
         sentence("4: Error 3: a reader with the name of a new reader exists already.");
         error("block 8;reader a;reader a;", 3, 24);
         error("block 8;reader abcd;reader ab;reader abcd;", 3, 37);
