@@ -24,6 +24,7 @@ public final class FramedLogAgainstModel {
     public static void main(String[] args) throws Exception {
         List<Method> calls = new ArrayList<>(List.of(FramedLog.class.getDeclaredMethods()));
         calls.removeIf(m -> !java.lang.reflect.Modifier.isPublic(m.getModifiers()));
+        calls.removeIf(m -> List.of("toString", "equals", "hashCode").contains(m.getName()));
         calls.sort(Comparator.comparing(Method::getName));
         if (calls.size() != 63) {
             System.out.println("the face has " + calls.size() + " methods, due are 63");

@@ -5,9 +5,9 @@ import java.lang.reflect.Modifier;
 import java.util.Set;
 import java.util.TreeSet;
 
-/** The class has the document's face, with its exceptions in their order, and nothing else that is not private. */
+/** The class has the public face that the document shows, and no other public member. */
 public final class FramedLogFace extends Checks {
-    /** As the document writes them. */
+    /** As the document writes them; which exceptions come when is told by their calls, not by the clause. */
     private static final String METHODS = """
             public int appendInput(int a, int b, int c, int d, int e) throws IllegalStateException
             public int truncateInput(int length) throws IllegalArgumentException
@@ -74,39 +74,38 @@ public final class FramedLogFace extends Checks {
             public int undoDepth()
             """;
 
+    /** What the document does not promise. */
+    private static final Set<String> LEFT_FREE = Set.of("toString", "equals", "hashCode");
+
     public static void main(String[] args) {
         about = "the public face";
         due("the class", Modifier.toString(FramedLog.class.getModifiers()), "public final");
         methods();
         constants();
         constructors();
-        for (Class<?> inside : FramedLog.class.getDeclaredClasses()) {
-            due("static " + inside, Modifier.isStatic(inside.getModifiers()), true);
-            due("public or protected " + inside, Modifier.isPublic(inside.getModifiers()) || Modifier.isProtected(inside.getModifiers()), false);
-        }
+        due("public classes inside", FramedLog.class.getClasses().length, 0);
         tellTheEnd();
     }
 
     private static void methods() {
         Set<String> want = new TreeSet<>();
-        for (String line : METHODS.split("\n")) want.add(line.replaceAll("int \\w+(?=[,)])", "int"));
+        for (String line : METHODS.split("\n")) want.add(line.replaceAll(" throws .*", "").replaceAll("int \\w+(?=[,)])", "int"));
         due("the number of the document's methods", want.size(), 63);
         Set<String> got = new TreeSet<>();
         for (Method m : FramedLog.class.getDeclaredMethods()) {
-            if (!Modifier.isPrivate(m.getModifiers())) got.add(told(m));
+            if (Modifier.isPublic(m.getModifiers()) && !LEFT_FREE.contains(m.getName())) got.add(told(m));
         }
         due("the methods", got, want);
     }
 
     private static String told(Method m) {
-        String s = m.toGenericString().replace("FramedLog.", "").replaceAll("java\\.(lang|util)\\.", "");
-        return s.replace(",", ", ").replaceAll(" +", " ");
+        return m.toGenericString().replace("FramedLog.", "").replaceAll(" throws .*", "").replace(",", ", ");
     }
 
     private static void constants() {
         Set<String> got = new TreeSet<>();
         for (Field f : FramedLog.class.getDeclaredFields()) {
-            if (!Modifier.isPrivate(f.getModifiers())) got.add(f.toGenericString().replace("FramedLog.", ""));
+            if (Modifier.isPublic(f.getModifiers())) got.add(f.toGenericString().replace("FramedLog.", ""));
         }
         Set<String> want = new TreeSet<>();
         for (String name : "NONE FULL FIRST MIDDLE LAST".split(" ")) want.add("public static final int " + name);
@@ -115,7 +114,7 @@ public final class FramedLogFace extends Checks {
     }
 
     private static void constructors() {
-        Constructor<?>[] all = FramedLog.class.getDeclaredConstructors();
+        Constructor<?>[] all = FramedLog.class.getConstructors();
         due("the constructors", all.length + " " + all[0].toGenericString(), "1 public FramedLog()");
     }
 }
