@@ -1041,7 +1041,7 @@ public final class FramedLog {
             target.begin(source.sizeOfBlock);
             records = 0;
             int at = 0;
-            while (records < LOG_LIMIT && search.findNext(source, at)) {
+            for (int step = 0; step < LOG_LIMIT && search.findNext(source, at); step++) {
                 at = search.end;
                 writer.plan(target, search.length);
                 if (writer.end > LOG_LIMIT) {
